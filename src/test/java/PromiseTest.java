@@ -230,6 +230,35 @@ public final class PromiseTest {
         due(x.used(7, 0), -2);
     }
 
+    /** What happens in the last HOUR counts, too. */
+    private static void lastHour() {
+        ObligingPosts x = Due.heath("heath hours 2 law 0 odds 0;inn room 2;post;post;road 0 to 1;road 1 in 0;road 0 in 0;"
+            + "walker 1 at 1;walker 0 at 0;");
+        promise(18, "home in the last HOUR");
+        due(x.home(1), 2);
+        promise(25, "full in the last HOUR");
+        due(x.full(0), 2);
+        promise(29, "done in the last HOUR");
+        due(x.done(), 2);
+        promise(39, "same in the last HOUR");
+        due(Due.heath("heath hours 2 law 0 odds 0;post;post;road 0 to 1;road 0 to 1;walker 0 at 0;walker 0 at 1;").same(), 2);
+        promise(20, "trail in the last HOUR");
+        ObligingPosts back = Due.heath("heath hours 2 law 0 odds 0;post;post;post;road 0 to 1;road 1 to 0;road 1 to 2;"
+            + "walker 0 at 0;walker 1 at 1;walker 2 at 2;");
+        due(back.trail(1), 6);
+        due(back.trail(2), 4);
+        promise(21, "again in the last HOUR");
+        due(back.again(0), 1);
+        due(back.again(1), 0);
+        promise(32, "meet in the last HOUR");
+        due(back.meet(1, 2), 2);
+        promise(49, "point in the last HOUR");
+        ObligingPosts late = Due.heath("heath hours 2 law 0 odds 0;inn room 1;post;post;post;road 0 to 1;road 0 to 2;"
+            + "road 2 in 0;walker 0 at 0;");
+        due(late.point(0, 0), 1);
+        due(late.best(), 1);
+    }
+
     private static void walkers() {
         ObligingPosts x = Due.heath(WALKED);
         promise(17, "walks");
@@ -424,6 +453,14 @@ public final class PromiseTest {
         due(x.round(2), 1);
         due(x.round(3), -1);
         due(x.round(4), -2);
+        String sixty = HEAD + "inn room 0;post;post;post;post;post;road 0 to 4;road 0 to 2;road 1 in 0;road 1 to 2;"
+            + "road 1 in 0;road 1 to 4;road 2 in 0;road 2 in 0;road 2 to 1;road 2 to 4;road 3 to 2;road 3 to 0;"
+            + "road 3 to 4;road 4 to 3;road 4 in 0;";
+        due(Due.heath(sixty).round(0), 60);
+        String sixtyFour = HEAD + "inn room 0;post;post;post;" + "road 0 in 0;".repeat(3) + "road 0 to 1;"
+            + "road 1 in 0;".repeat(3) + "road 1 to 2;" + "road 2 in 0;".repeat(4);
+        due(Due.heath(sixtyFour).round(0), -1);
+        due(Due.heath(sixtyFour).round(1), 16);
         promise(45, "houses");
         due(x.houses(0, 4, 0), 1);
         due(x.houses(0, 4, 1), 3);
@@ -589,6 +626,12 @@ public final class PromiseTest {
         due(narrow.rests(0, 0), -2);
         due(narrow.rests(0, 3), -2);
         due(turning.rests(0, 1), 0);
+        // Who waits comes in an HOUR sooner behind the arm turned by hand: as much for him as not to wait.
+        ObligingPosts alike = Due.heath("heath hours 4 law 0 odds 0;inn room 2;post;post;road 0 to 1;road 0 in 0;"
+            + "road 1 to 0;walker 0 at 0;walker 0 at 0;");
+        due(alike.twists(0, 2), 0);
+        due(alike.rests(0, 1), 3);
+        due(alike.rests(1, 0), 5);
         promise(61, "gets");
         due(narrow.gets(0, 1, 0, 0), 19);
         due(narrow.gets(1, 0, 0, 0), 0);
@@ -853,6 +896,7 @@ public final class PromiseTest {
         fault();
         told();
         night();
+        lastHour();
         walkers();
         inns();
         posts();
