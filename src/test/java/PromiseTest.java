@@ -232,8 +232,8 @@ public final class PromiseTest {
 
     /** What happens in the last HOUR counts, too. */
     private static void lastHour() {
-        ObligingPosts x = Due.heath("heath hours 2 law 0 odds 0;inn room 2;post;post;road 0 to 1;road 1 in 0;road 0 in 0;"
-            + "walker 1 at 1;walker 0 at 0;");
+        ObligingPosts x = Due.heath("heath hours 2 law 0 odds 0;inn room 2;post;post;road 0 to 1;road 1 in 0;"
+            + "road 0 in 0;walker 1 at 1;walker 0 at 0;");
         promise(18, "home in the last HOUR");
         due(x.home(1), 2);
         promise(25, "full in the last HOUR");
@@ -241,7 +241,8 @@ public final class PromiseTest {
         promise(29, "done in the last HOUR");
         due(x.done(), 2);
         promise(39, "same in the last HOUR");
-        due(Due.heath("heath hours 2 law 0 odds 0;post;post;road 0 to 1;road 0 to 1;walker 0 at 0;walker 0 at 1;").same(), 2);
+        due(Due.heath("heath hours 2 law 0 odds 0;post;post;road 0 to 1;road 0 to 1;"
+            + "walker 0 at 0;walker 0 at 1;").same(), 2);
         promise(20, "trail in the last HOUR");
         ObligingPosts back = Due.heath("heath hours 2 law 0 odds 0;post;post;post;road 0 to 1;road 1 to 0;road 1 to 2;"
             + "walker 0 at 0;walker 1 at 1;walker 2 at 2;");
@@ -351,7 +352,8 @@ public final class PromiseTest {
         due(x.meet(2, 3), -1);
         due(x.meet(0, 0), -2);
         due(x.meet(0, 4), -2);
-        due(Due.heath(HEAD + "inn room 2;post;post;road 0 in 0;road 1 in 0;walker 0 at 0;walker 1 at 1;").meet(1, 0), 2);
+        due(Due.heath(HEAD + "inn room 2;post;post;road 0 in 0;road 1 in 0;"
+            + "walker 0 at 0;walker 1 at 1;").meet(1, 0), 2);
         promise(33, "busy");
         due(x.busy(), 0);
         due(bare.busy(), -1);
@@ -647,7 +649,8 @@ public final class PromiseTest {
     }
 
     private static void fog() {
-        String text = "heath hours 9 law 0 odds 3;inn room 1;post;road 0 in 0;walker 0 at 0;walker 0 at 0;walker 0 at 9;";
+        String text = "heath hours 9 law 0 odds 3;inn room 1;post;road 0 in 0;"
+            + "walker 0 at 0;walker 0 at 0;walker 0 at 9;";
         ObligingPosts x = Due.heath(text);
         promise(62, "chance");
         due(x.chance(0, 0, 0), 7);
