@@ -1,4 +1,4 @@
-/** Each promise of the document by its number, with answers worked out by hand. */
+/** Each promise of the document by its number, with answers worked out by hand (where not, it says so). */
 public final class PromiseTest {
     /**
      * By LAW 0, arms at 0, 1, 0: WALKERS 0, 1, 2, 3 are at
@@ -455,6 +455,7 @@ public final class PromiseTest {
         due(x.round(2), 1);
         due(x.round(3), -1);
         due(x.round(4), -2);
+        // Found by a search, and told so by the Model, too: too long to walk by hand.
         String sixty = HEAD + "inn room 0;post;post;post;post;post;road 0 to 4;road 0 to 2;road 1 in 0;road 1 to 2;"
             + "road 1 in 0;road 1 to 4;road 2 in 0;road 2 in 0;road 2 to 1;road 2 to 4;road 3 to 2;road 3 to 0;"
             + "road 3 to 4;road 4 to 3;road 4 in 0;";
@@ -738,7 +739,7 @@ public final class PromiseTest {
     }
 
     private static void drawn() {
-        // From 7: x is 1282168116, ..: draws 4, 5, 6, 3, 3, 5.
+        // From 7: x is 1282168116, 642666333, ..: draws 4, 6, 8, 4, 1, 5; FOG from HOURS 0, 3, 4.
         ObligingPosts x = Due.heath(WALKED);
         promise(68, "drawn");
         due(x.drawn(7, 0), 25);
