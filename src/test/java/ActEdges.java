@@ -35,6 +35,17 @@ final class ActEdges {
         Edge.due(x.twists(1, 0), -1);
         Edge.due(x.twists(1, 2), -1);
         Edge.due(x.count(8), 4);
+        // What was asked for ahead of an act is otherwise behind it.
+        ObligingPosts y = Edge.told("heath hours 1 law 0 odds 3;inn room 9;post;post;road 0 in 0;road 0 to 1;"
+            + "walker 0 at 0;");
+        Edge.due(y.chance(0, 0, 0), 7);
+        Edge.due(y.mean(0, 0), 7);
+        Edge.due(y.worth(0), 1);
+        Edge.due(y.share(0, 0), 0);
+        Edge.due(y.twists(0, 0), 0);
+        Edge.due(y.chance(0, 0, 0), 0);
+        Edge.due(y.mean(0, 0), 0);
+        Edge.due(y.worth(0), 0);
         Edge.promise(64, "-2: there are none such");
         Edge.dueOfEach(-2, x.twists(0, 3), x.twists(0, 4), x.twists(0, -1), x.twists(2, 0), x.twists(-1, 0),
             x.twists(10, 0), x.twists(Edge.MAX, 0), x.twists(0, Edge.MIN));
@@ -157,7 +168,10 @@ final class ActEdges {
         ObligingPosts x = Edge.told(Edge.HEAD + "inn room 2;inn room 3;inn room 4;inn room 5;post;road 0 in 0;"
             + "walker 0 at 0;walker 0 at 0;");
         Edge.due(x.inside(3), 3);
+        // SHARE: by a stiff arm both are in, and by one that turns, since there is one road.
+        Edge.due(x.mean(0, 0), 2);
         Edge.due(x.rate(0, 0), 2);
+        Edge.due(x.mean(0, 0), 0);
         Edge.due(x.inside(3), 0);
         Edge.due(x.full(0), 0);
         Edge.due(x.rate(0, 1), 0);
@@ -228,6 +242,20 @@ final class ActEdges {
         Edge.due(x.at(0, 1), 10);
         Edge.due(x.back(2), 0);
         Edge.due(x.armless(), -2);
+        // The acts themselves are kept, and in their order: the latest is taken back first.
+        ObligingPosts order = Edge.told(TURNED);
+        Edge.due(order.twists(0, 0), 1);
+        Edge.due(order.holds(0, 0), 10);
+        Edge.due(order.image(0), 0);
+        Edge.due(order.anew(), 2);
+        Edge.due(order.holds(1, 2), 0);
+        Edge.due(order.twists(1, 1), -1);
+        Edge.due(order.back(0), 0);
+        Edge.due(order.at(0, 1), 0);
+        Edge.due(order.undo(), 1);
+        Edge.due(order.at(0, 1), 10);
+        Edge.due(order.undo(), 0);
+        Edge.due(order.at(0, 1), 1);
         // What is done behind it is not kept, and another in its place is.
         Edge.due(x.back(0), 0);
         Edge.due(x.rate(0, 9), 2);

@@ -245,6 +245,13 @@ final class AloneEdges {
         Edge.due(Edge.told(chain + "road 6 to 0;").ring(0), 127);
         Edge.due(Edge.told(chain + "road 6 to 5;").ring(3), 32 + 64);
         Edge.due(Edge.told(chain + "road 6 to 1;").ring(3), 126);
+        // The arm of POST 0 stands at the ring, behind him who is SENT not, and, when he has come back, again.
+        ObligingPosts turning = Edge.told(Edge.HEAD + "inn room 2;post;post;road 0 to 1;road 0 in 0;road 1 to 0;"
+            + "walker 0 at 0;");
+        Edge.due(turning.ring(0), 3);
+        Edge.due(turning.ring(1), 0);
+        Edge.due(turning.ring(2), 0);
+        Edge.due(turning.ring(3), 3);
         // Two rings at once.
         Edge.due(Edge.told(Edge.HEAD + "post;post;post;post;road 0 to 1;road 1 to 0;road 2 to 3;road 3 to 2;").ring(0), 15);
         Edge.promise(47, "-2 likewise");
@@ -260,6 +267,12 @@ final class AloneEdges {
         // Of the 4 of POSTS 0, 1 that go to each other or in, all but the ring.
         Edge.due(Edge.told(Edge.HEAD + "inn room 0;post;post;road 0 to 1;road 0 in 0;road 1 to 0;road 1 in 0;").trees(),
             3);
+        // An arm of an earlier HEATH, left at its last road, does not matter.
+        ObligingPosts later = Edge.told(Edge.FULL);
+        Edge.due(later.alone(0), 3);
+        Due.tape(later, Edge.HEAD + "inn room 0;post;road 0 in 0;");
+        Edge.due(later.heath(), 4);
+        Edge.due(later.trees(), 1);
         Edge.promise(48, "-2: there is no HEATH");
         Edge.due(new ObligingPosts().trees(), -2);
         Edge.promise(48, "-3: there are more than 4,096 SETTINGS");

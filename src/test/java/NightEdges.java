@@ -146,6 +146,15 @@ final class NightEdges {
         Edge.due(x.arm(0, 1), 1);
         x = Edge.told(head(1, 3) + four);
         dueAt(x, 1, 2, 3, 1, 2);
+        // Of the last POST, too.
+        int[][] lasts = {{1, 2}, {2, 0}, {1, 0}, {1, 2}};
+        int[] arms = {0, 0, 2, 0};
+        for (int law = 0; law < 4; law++) {
+            x = Edge.told(head(1, law) + "post;".repeat(7) + "road 6 to 0;road 6 to 1;road 6 to 2;arm 6 1;"
+                + "walker 6 at 0;walker 6 at 0;");
+            dueAt(x, 1, lasts[law]);
+            Edge.due(x.arm(6, 1), arms[law]);
+        }
         // A POST with one road has its arm at it by each LAW.
         Edge.term("II", "by LAW, 0:");
         for (int law = 0; law < 4; law++) {
@@ -356,6 +365,7 @@ final class NightEdges {
         }
         Edge.due(Edge.told(TO_AND_FRO + "walker 0 at 4;").trail(0), 1);
         Edge.due(Edge.told(TO_AND_FRO + "walker 0 at 5;").trail(0), 0);
+        Edge.due(Edge.told(head(3, 0) + inn + "walker 0 at 0;").trail(0), 1);
         Edge.promise(20, "-2 likewise");
         Edge.dueOfEach(-2, x.trail(8), x.trail(-1), bare.trail(0));
     }
@@ -379,6 +389,7 @@ final class NightEdges {
         Edge.dueOfEach(-2, x.again(8), x.again(-1), bare.again(0));
 
         Edge.promise(22, "In how many HOURS from 1 on a WALKER is at the POST at which he was in the HOUR ahead");
+        Edge.due(Edge.told(head(3, 0) + "inn room 1;" + INN_BESIDE + "walker 0 at 0;").lingers(0), 0);
         Edge.due(x.lingers(3), 1);
         Edge.due(x.lingers(5), 2);
         Edge.due(x.lingers(0), 0);
@@ -399,6 +410,16 @@ final class NightEdges {
         Edge.due(x.doors(2), 0);
         Edge.due(x.doors(6), 2);
         Edge.due(bare.doors(0), 0);
+        // Neither the next POST's roads are its own, nor one that an earlier HEATH told.
+        ObligingPosts next = Edge.told(Edge.HEAD + "inn room 1;post;post;road 0 to 1;road 0 to 1;road 0 to 1;road 0 to 1;"
+            + "road 1 in 0;");
+        Edge.due(next.doors(0), 0);
+        Edge.due(next.doors(1), 1);
+        Due.tape(next, Edge.HEAD + "inn room 1;post;post;road 0 in 0;road 0 to 1;");
+        Edge.due(next.heath(), 6);
+        Due.tape(next, Edge.HEAD + "post;post;");
+        Edge.due(next.heath(), 3);
+        Edge.due(next.doors(0), 0);
         Edge.due(Edge.told(Edge.HEAD + "inn room 1;post;" + "road 0 in 0;".repeat(4)).doors(0), 1);
         Edge.due(Edge.told(Edge.HEAD + "inn room 1;".repeat(4)
             + "post;road 0 in 3;road 0 in 2;road 0 in 1;road 0 in 0;").doors(0), 15);
@@ -462,6 +483,7 @@ final class NightEdges {
         Edge.due(x.outside(15), 128);
         Edge.due(x.outside(16), 128);
         Edge.due(bare.outside(0), 0);
+        Edge.due(Edge.told(head(1, 0) + "inn room 1;" + INN_BESIDE + "walker 0 at 0;walker 0 at 0;").outside(1), 2);
         Edge.promise(28, "-2 likewise");
         Edge.dueOfEach(-2, x.outside(17), x.outside(-1), bare.outside(4), none.outside(0));
 

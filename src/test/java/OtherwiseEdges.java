@@ -51,6 +51,13 @@ final class OtherwiseEdges {
         Edge.due(Edge.told(POINTED + "arm 0 1;walker 0 at 0;").point(0, 0), 2);
         Edge.due(Edge.told(POINTED + "walker 1 at 0;").point(0, 0), -1);
         Edge.due(Edge.told(POINTED + "arm 1 1;walker 1 at 0;").point(0, 0), 10);
+        // To the INN that is asked for, whatever the other: now in HOUR 3, by POST 0's road 1 in HOUR 2.
+        String second = Edge.HEAD + "inn room 1;inn room 1;post;post;post;road 0 to 1;road 0 to 2;road 0 in 0;"
+            + "road 1 to 2;road 2 in 1;walker 0 at 0;";
+        Edge.due(Edge.told(second).home(0), 3);
+        Edge.due(Edge.told(second).point(0, 1), 1);
+        Edge.due(Edge.told(second).point(0, 0), 2);
+        Edge.due(Edge.told(second + "arm 0 1;").point(0, 1), -1);
         Edge.promise(49, "NONE: none");
         Edge.due(Edge.told(POINTED + "arm 0 2;walker 0 at 0;").point(0, 0), -1);
         Edge.due(Edge.told(POINTED + "arm 0 3;walker 0 at 0;").point(0, 0), -1);
@@ -69,6 +76,8 @@ final class OtherwiseEdges {
             + "the first of several");
         Edge.due(Edge.told(POINTED + "walker 0 at 0;").best(), 1);
         Edge.due(Edge.told(LAST_ROAD).best(), 63);
+        Edge.due(Edge.told("heath hours 1 law 0 odds 0;inn room 1;post;post;road 0 in 0;road 0 to 1;arm 0 1;"
+            + "walker 0 at 0;").best(), 0);
         // From road 1 on one of two is in, from 0 none, from 2 both.
         Edge.due(Edge.told("heath hours 1 law 0 odds 0;inn room 2;post;post;road 0 to 1;road 0 to 1;road 0 in 0;"
             + "road 0 in 0;walker 0 at 0;walker 0 at 0;").best(), 2);
@@ -93,7 +102,10 @@ final class OtherwiseEdges {
         Edge.due(most.crowds(), 0);
         Edge.due(most.twists(4, 2), 0);
         Edge.due(most.crowds(), 1);
-        // Seven who have no road, and two for one room: 6 is in, 7 is not.
+        // From the last HOUR but one, too: he who never comes is not there then, either.
+        Edge.due(Edge.told("heath hours 16 law 0 odds 0;inn room 1;post;road 0 in 0;walker 0 at 15;walker 0 at 15;")
+            .crowds(), 0);
+        // Six who have no road, and two for one room: 6 is in, 7 is not.
         Edge.due(Edge.told(Edge.HEAD + "inn room 1;post;post;road 0 in 0;" + "walker 1 at 0;".repeat(6)
             + "walker 0 at 0;walker 0 at 0;").crowds(), 6);
         Edge.promise(51, "NONE: none");
@@ -173,7 +185,14 @@ final class OtherwiseEdges {
         Edge.due(seen("heath hours 2 law 0 odds 0;post;post;post;post;road 0 to 1;road 0 to 2;road 0 to 3;road 0 to 3;"
             + "walker 3 at 0;walker 0 at 0;").ask(3, 0), 101);
         Edge.due(seen(three + "walker 0 at 0;").ask(3, 0), 1);
+        // Of roads 1 and 2, by which WALKER 0 is at POST 2, WALKER 1 tells; by road 0, which is out, he would be
+        // where he is by road 1.
+        String told = alike + "post;road 0 to 1;road 0 to 2;road 0 to 2;road 0 to 3;walker 0 at 0;walker 0 at 0;";
+        Edge.due(seen(told, 0, 1, 2).may(3, 0), 2 + 4);
+        Edge.due(seen(told, 0, 1, 2).ask(3, 0), 101);
+        Edge.due(seen(told, 0, 1, 2).leaves(3, 0), 1);
         Edge.promise(53, "NONE: none");
+        Edge.due(seen(SEEN, 0, 1, 1).ask(3, 0), -1);
         Edge.due(seen(SEEN, 0, 1, 2).ask(3, 0), -1);
         Edge.due(seen(SEEN, 0, 0, -1).ask(3, 0), -1);
         Edge.due(seen(SEEN).ask(3, 1), -1);
@@ -193,7 +212,13 @@ final class OtherwiseEdges {
         Edge.due(seen(LATE).leaves(3, 0), 1);
         Edge.due(seen(alike + "road 0 to 1;road 0 to 1;road 0 to 1;road 0 to 2;walker 0 at 0;").leaves(3, 0), 3);
         Edge.due(seen(alike + "road 0 to 1;road 0 to 1;road 0 to 2;road 0 to 2;walker 0 at 0;").leaves(3, 0), 2);
+        Edge.due(seen(SEEN, 0, 1, 1).leaves(3, 0), 1);
         Edge.due(seen(SEEN, 0, 1, 2).leaves(3, 0), 1);
+        // Only WALKER 2 tells anything: 201.
+        ObligingPosts third = seen(alike + "road 0 to 1;road 0 to 1;road 0 to 2;road 0 to 2;walker 1 at 0;walker 1 at 0;"
+            + "walker 0 at 0;");
+        Edge.due(third.ask(3, 0), 201);
+        Edge.due(third.leaves(3, 0), 2);
         Edge.due(seen(SEEN, 0, 0, -1).leaves(3, 0), 0);
         Edge.due(seen(SEEN).leaves(3, 1), 0);
         Edge.due(seen(alike + "road 0 to 1;road 0 to 1;walker 0 at 0;").leaves(3, 0), 2);
@@ -236,6 +261,15 @@ final class OtherwiseEdges {
         Edge.due(x.inside(1), 1);
         Edge.due(Edge.told(STAYING + "walker 0 at 0;".repeat(6)).by(3), 255);
         Edge.due(Edge.told(Edge.HEAD).by(3), 0);
+        // By a set that was asked for, and by a NIGHT that was drawn, nothing else is otherwise behind it.
+        Edge.due(x.worth(0), 2);
+        Edge.due(x.by(0), 1);
+        ObligingPosts thick = Edge.told(STAYING.replace("odds 0", "odds 10"));
+        Edge.due(thick.drawn(0, 1), 0);
+        Edge.due(thick.by(0), 1);
+        Edge.due(thick.mean(0, 0), 0);
+        Edge.due(thick.best(), -1);
+        Edge.due(thick.worth(0), 2);
         Edge.promise(56, "-2: there is none such (0 .. 3), no HEATH");
         Edge.dueOfEach(-2, x.by(4), x.by(-1), x.by(Edge.MAX), x.by(Edge.MIN), new ObligingPosts().by(0));
         Edge.promise(57, "The LAW by which most are, the least of several");
@@ -406,6 +440,16 @@ final class OtherwiseEdges {
         Edge.due(narrow.gets(1, 0, 0, 0), 0);
         Edge.due(narrow.gets(1, 0, 0, 1), 19);
         Edge.due(narrow.gets(1, 0, 1, 1), -1);
+        // The other one comes in his HOUR, 1, or in 2, to the one room.
+        ObligingPosts later = Edge.told(Edge.HEAD + "inn room 1;post;road 0 in 0;walker 0 at 1;walker 0 at 1;"
+            + "walker 0 at 2;");
+        Edge.due(later.gets(1, 0, 0, 0), 0);
+        Edge.due(later.gets(1, 2, 0, 0), 0);
+        Edge.due(later.holds(0, 1), 0);
+        Edge.due(later.gets(2, 1, 0, 0), 0);
+        Edge.due(later.gets(1, 2, 0, 0), 18);
+        Edge.due(later.gets(2, 0, 0, 1), 0);
+        Edge.due(later.undo(), 0);
         // What would be leaves what is.
         Edge.due(narrow.walker(0, 1), 0);
         Edge.due(narrow.home(0), 1);
@@ -436,6 +480,7 @@ final class OtherwiseEdges {
         Edge.term("VIII", "FOG: from each HOUR to the next with odds in ten, by itself (else none is)");
         dueFraction(Edge.told(foggy(3, 0) + "walker 0 at 0;"), 0, 0, 1, 1);
         dueFraction(Edge.told(foggy(3, 1) + "walker 0 at 0;"), 0, 0, 9, 10);
+        dueFraction(Edge.told(foggy(3, 1) + "walker 0 at 0;"), 0, 1, 99, 100);
         dueFraction(Edge.told(foggy(3, 9) + "walker 0 at 0;"), 0, 0, 1, 10);
         dueFraction(Edge.told(foggy(3, 9) + "walker 0 at 0;"), 0, 2, 271, 1000);
         dueFraction(Edge.told(foggy(3, 10) + "walker 0 at 0;"), 0, 2, 0, 1);

@@ -92,7 +92,21 @@ final class TextEdges {
         Due.tape(x, Edge.HEAD);
         Edge.dueOfEach(-1, x.end(28), x.end(-1), x.end(800), x.end(801), x.end(Edge.MAX), x.end(Edge.MIN));
         Edge.due(x.count(10), 27);
-        // Bytes cut off are gone, and do not come again.
+        // Bytes cut off are gone, those of a TOKEN, too.
+        ObligingPosts cut = new ObligingPosts();
+        Due.tape(cut, Edge.HEAD + "inn room 99;");
+        Edge.due(cut.end(37), 37);
+        Edge.due(cut.heath(), -4);
+        Edge.due(cut.fault(0), 1);
+        Edge.due(cut.fault(1), 37);
+        Due.tape(cut, Edge.HEAD + "posts;");
+        Edge.due(cut.end(31), 31);
+        Edge.due(cut.heath(), -4);
+        Edge.due(cut.fault(1), 31);
+        Due.tape(cut, Edge.HEAD + "post;;");
+        Edge.due(cut.end(32), 32);
+        Edge.due(cut.heath(), 2);
+        // They do not come again.
         Edge.due(x.end(26), 26);
         Edge.due(x.end(27), -1);
         Edge.due(x.heath(), -4);
@@ -119,6 +133,17 @@ final class TextEdges {
         Edge.due(x.back(1), 0);
         Edge.due(x.count(9), 44);
         Edge.due(x.count(8), 1);
+        // Arms of another HEATH are forgotten, those of a text with a FAULT, too.
+        String twoRoads = "heath hours 1 law 0 odds 0;inn room 3;post;road 0 in 0;road 0 in 0;";
+        Due.tape(x, twoRoads + "arm 0 1;arm 0 2;");
+        Edge.due(x.heath(), -4);
+        Edge.due(x.told(0), 1);
+        Due.tape(x, twoRoads + "arm 0 1;");
+        Edge.due(x.heath(), 6);
+        Edge.due(x.told(0), 1);
+        Due.tape(x, twoRoads);
+        Edge.due(x.heath(), 5);
+        Edge.due(x.told(0), 0);
 
         Edge.promise(4, "how many LINES (0: there is none then)");
         Edge.fine(Edge.HEAD, 1);
@@ -128,16 +153,21 @@ final class TextEdges {
         Edge.fine("", 0);
         Edge.fine(" ", 0);
         Edge.fine(" \n".repeat(400), 0);
+        Due.tape(x, "heath hours 9 law 3 odds 7;inn room 1;post;road 0 in 0;arm 0 0;walker 0 at 0;");
+        Edge.due(x.heath(), 6);
+        Edge.due(x.twists(0, 0), 0);
         Edge.due(x.heath(), 0);
         Edge.due(x.armless(), -2);
-        Edge.due(x.count(8), 0);
-        Edge.due(x.count(0), 0);
+        for (int what = 0; what <= 10; what++) {
+            Edge.due(x.count(what), 0);
+        }
         Edge.due(x.heath(), 0);
 
         Edge.promise(4, "-4: a FAULT (all stays)");
         ObligingPosts y = Edge.told(Edge.FULL);
         Edge.due(y.holds(7, 15), 0);
         Edge.due(y.row(0, 0, 0), 0);
+        Edge.due(y.image(0), 0);
         Due.tape(y, "heath hours 2 law 1 odds 0;post;inn room 10;");
         Edge.due(y.heath(), -4);
         int[] kept = {16, 0, 10, 4, 7, 16, 8, 8, 1, 44, 44, 1};
@@ -149,6 +179,8 @@ final class TextEdges {
         Edge.due(y.heath(), -4);
         Edge.due(y.undo(), 0);
         Edge.due(y.at(7, 16), 3);
+        Edge.due(y.back(0), 0);
+        Edge.due(y.at(7, 16), 0);
         // The TAPE stays, too: mended, it is read.
         Edge.due(y.end(32), 32);
         Edge.due(y.heath(), 2);
@@ -224,6 +256,13 @@ final class TextEdges {
             }
             if (!tokens[i].equals(";")) {
                 Edge.faulty(with(tokens, i, ";"), 1, place);
+            }
+            for (int letter = 0; letter < tokens[i].length() && Character.isLetter(tokens[i].charAt(0)); letter++) {
+                StringBuilder other = new StringBuilder(tokens[i]);
+                other.setCharAt(letter, 'x');
+                Edge.faulty(with(tokens, i, other.toString()), 1, place);
+                other.deleteCharAt(letter);
+                Edge.faulty(with(tokens, i, other.toString()), 1, other.length() == 0 ? place + 1 : place);
             }
             if (!Character.isDigit(tokens[i].charAt(0))) {
                 Edge.faulty(with(tokens, i, "0"), 1, place);
