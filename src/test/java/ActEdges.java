@@ -4,6 +4,10 @@ final class ActEdges {
     private static final String TURNED = Edge.HEAD + "inn room 2;post;post;road 0 to 1;road 0 in 0;walker 0 at 0;"
         + "walker 0 at 2;walker 0 at 15;";
 
+    /** By a stiff arm two are in, by one that turns one is. */
+    private static final String STIFF = "heath hours 1 law 0 odds 3;inn room 9;post;post;road 0 in 0;road 0 to 1;"
+        + "walker 0 at 0;walker 0 at 0;";
+
     private ActEdges() {
     }
 
@@ -168,7 +172,6 @@ final class ActEdges {
         ObligingPosts x = Edge.told(Edge.HEAD + "inn room 2;inn room 3;inn room 4;inn room 5;post;road 0 in 0;"
             + "walker 0 at 0;walker 0 at 0;");
         Edge.due(x.inside(3), 3);
-        // SHARE: by a stiff arm both are in, and by one that turns, since there is one road.
         Edge.due(x.mean(0, 0), 2);
         Edge.due(x.rate(0, 0), 2);
         Edge.due(x.mean(0, 0), 0);
@@ -181,6 +184,25 @@ final class ActEdges {
         Edge.due(x.rate(3, 0), 5);
         Edge.due(x.room(3), 0);
         Edge.due(x.room(2), 4);
+        // What was asked for ahead is otherwise behind it, and as it was behind another, an IMAGE and a text.
+        ObligingPosts stiff = Edge.told(STIFF);
+        Edge.due(stiff.image(0), 0);
+        Edge.due(stiff.share(0, 0), -1);
+        Edge.due(stiff.rate(0, 0), 9);
+        Edge.due(stiff.share(0, 0), 0);
+        Edge.due(stiff.rate(0, 2), 0);
+        Edge.due(stiff.share(0, 0), -1);
+        Edge.due(stiff.twists(0, 0), 1);
+        Edge.due(stiff.share(0, 0), 1);
+        Edge.due(stiff.undo(), 0);
+        Edge.due(stiff.share(0, 0), -1);
+        Edge.due(stiff.rate(0, 0), 2);
+        Edge.due(stiff.share(0, 0), 0);
+        Edge.due(stiff.back(0), 0);
+        Edge.due(stiff.share(0, 0), -1);
+        Due.tape(stiff, STIFF.replace("room 9", "room 1"));
+        Edge.due(stiff.heath(), 8);
+        Edge.due(stiff.share(0, 0), 0);
         Edge.promise(70, "-2: there are none such");
         Edge.dueOfEach(-2, x.rate(0, 10), x.rate(0, -1), x.rate(4, 0), x.rate(-1, 0), x.rate(10, 0), x.rate(0, Edge.MAX),
             Edge.told(Edge.HEAD).rate(0, 0), new ObligingPosts().rate(0, 0));

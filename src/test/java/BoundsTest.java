@@ -225,6 +225,25 @@ public final class BoundsTest {
         Due.holds(what + " leaves all as it was", before.equals(Snapshot.of(x)));
     }
 
+    /** "An object is used for at most 512 calls": the last of them is answered as the first ones were. */
+    private static void lastCalls() {
+        ObligingPosts x = Due.heath(Edge.FULL);
+        // Text of n twenties: end, n times feed, end, heath.
+        int made = 3 + Due.feeds(Edge.FULL).length;
+        while (made + 6 <= 512) {
+            Due.is("at", x.at(7, 16), 3);
+            Due.is("twists", x.twists(0, 15), 0);
+            Due.is("at behind an act", x.at(7, 16), 0);
+            Due.is("image", x.image(made % 3), 0);
+            Due.is("undo", x.undo(), 0);
+            Due.is("worth", x.worth(127), 7);
+            made += 6;
+        }
+        while (made < 512) {
+            Due.is("call " + ++made, x.inside(16), 127);
+        }
+    }
+
     public static void main(String[] args) throws ReflectiveOperationException {
         for (Method method : ObligingPosts.class.getMethods()) {
             METHODS.put(method.getName(), method);
@@ -235,6 +254,7 @@ public final class BoundsTest {
             }
         }
         refusedOtherwise();
+        lastCalls();
         Due.close();
     }
 }
