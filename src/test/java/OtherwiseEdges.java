@@ -180,11 +180,11 @@ final class OtherwiseEdges {
         Edge.due(seen(SEEN).ask(3, 0), 1);
         Edge.due(seen(LATE).ask(3, 0), 716);
         Edge.due(seen(alike + "road 0 to 1;road 0 to 1;road 0 to 1;road 0 to 2;walker 0 at 0;").ask(3, 0), 1);
-        // WALKER 0 tells road 3 from three, 1 (two on two) leaves fewer at worst.
-        String three = alike + "post;road 0 to 1;road 0 to 1;road 0 to 2;road 0 to 2;road 3 to 0;";
+        // By roads 0, 1, 2 WALKER 0 is at 1 1 2, then at 3 3 5, WALKER 1 at 1 2 1, then at 4 5 3.
+        Edge.due(seen("heath hours 2 law 0 odds 0;" + "post;".repeat(6) + "road 0 to 1;road 0 to 1;road 0 to 2;"
+            + "road 1 to 3;road 1 to 4;road 2 to 5;walker 0 at 0;walker 0 at 0;").ask(3, 0), 102);
         Edge.due(seen("heath hours 2 law 0 odds 0;post;post;post;post;road 0 to 1;road 0 to 2;road 0 to 3;road 0 to 3;"
             + "walker 3 at 0;walker 0 at 0;").ask(3, 0), 101);
-        Edge.due(seen(three + "walker 0 at 0;").ask(3, 0), 1);
         // Of roads 1 and 2, by which WALKER 0 is at POST 2, WALKER 1 tells; by road 0, which is out, he would be
         // where he is by road 1.
         String told = alike + "post;road 0 to 1;road 0 to 2;road 0 to 2;road 0 to 3;walker 0 at 0;walker 0 at 0;";
@@ -274,14 +274,13 @@ final class OtherwiseEdges {
         Edge.dueOfEach(-2, x.by(4), x.by(-1), x.by(Edge.MAX), x.by(Edge.MIN), new ObligingPosts().by(0));
         Edge.promise(57, "The LAW by which most are, the least of several");
         Edge.due(x.law(), 3);
-        // Of one walker: by LAW 1 he is sent to the end, by all others in; told otherwise, by LAW 1 alone in.
+        // One by LAW 1 goes to the end, by the others in; from the other road by LAW 1 alone in.
         String one = "heath hours 1 law 3 odds 0;inn room 9;post;post;road 0 in 0;road 0 to 1;walker 0 at 0;";
         Edge.due(Edge.told(one).law(), 0);
         Edge.due(Edge.told(one + "arm 0 1;").law(), 1);
-        // Three roads: by LAW 2 the second one goes by the last, by 0 and 3 by the second, by 1 by the last, too,
-        // but then the first one by the second.
+        // Two by LAWS 0, 1 go by roads 0 1, 1 2: one of them is in; by LAW 2 by roads 0 2, as by LAW 3 both are.
         Edge.due(Edge.told("heath hours 1 law 0 odds 0;inn room 9;post;post;road 0 in 0;road 0 to 1;road 0 in 0;"
-            + "arm 0 0;walker 0 at 0;walker 0 at 0;").by(2), 3);
+            + "walker 0 at 0;walker 0 at 0;").law(), 2);
         Edge.due(Edge.told(Edge.HEAD).law(), 0);
         Edge.promise(57, "-2: there is no HEATH");
         Edge.due(new ObligingPosts().law(), -2);
