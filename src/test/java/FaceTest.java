@@ -5,6 +5,8 @@ import java.lang.reflect.Method;
 import java.lang.reflect.Modifier;
 import java.nio.file.Files;
 import java.nio.file.Path;
+import java.util.ArrayList;
+import java.util.List;
 import java.util.Set;
 import java.util.TreeSet;
 import java.util.regex.Matcher;
@@ -86,6 +88,58 @@ public final class FaceTest {
         }
     }
 
+    private static List<Class<?>> allClasses() {
+        List<Class<?>> all = new ArrayList<>(List.of(ObligingPosts.class.getDeclaredClasses()));
+        all.add(ObligingPosts.class);
+        return all;
+    }
+
+    /** Numbers of LANGUAGE.md: classes, fields, static fields, parameters. */
+    private static void counts() {
+        Due.holds("at most twelve classes", allClasses().size() <= 12);
+        for (Class<?> type : allClasses()) {
+            int fields = 0;
+            for (Field field : type.getDeclaredFields()) {
+                boolean isStatic = Modifier.isStatic(field.getModifiers());
+                fields += isStatic ? 0 : 1;
+                Due.holds("static field " + field, !isStatic || Modifier.isFinal(field.getModifiers()));
+            }
+            Due.holds("at most twenty fields of " + type, fields <= 20);
+            for (Method method : type.getDeclaredMethods()) {
+                Due.holds("at most seven parameters of " + method, method.getParameterCount() <= 7);
+            }
+        }
+    }
+
+    /** A method begins with a line that ends in ") {" and ends with a brace below its first sign. */
+    private static void lengths() throws IOException {
+        List<String> lines = Files.readAllLines(Path.of("src/main/java/ObligingPosts.java"));
+        Pattern begins = Pattern.compile("( {4}| {8})(?! )[\\w\\[\\] ]*\\w\\(.*\\) \\{");
+        int methods = 0;
+        for (int i = 0; i < lines.size(); i++) {
+            Matcher m = begins.matcher(lines.get(i));
+            if (m.matches() && !lines.get(i).matches(" +(if|for|while|switch) .*")) {
+                int length = lines.subList(i, lines.size()).indexOf(m.group(1) + "}") + 1;
+                Due.holds("at most sixty lines:" + lines.get(i), length > 0 && length <= 60);
+                methods++;
+            }
+        }
+        int built = allClasses().stream().mapToInt(c -> c.getDeclaredMethods().length).sum();
+        int constructors = allClasses().stream().mapToInt(c -> c.getDeclaredConstructors().length).sum();
+        Due.holds("lengths of all " + built + " methods, seen " + methods,
+            methods >= built && methods <= built + constructors);
+    }
+
+    private static void library() throws IOException {
+        String code = Files.readString(Path.of("src/main/java/ObligingPosts.java"));
+        Set<String> allowed = Set.of("Arrays.fill", "System.arraycopy", "Math.max", "Math.min", "Math.abs",
+            "Integer.bitCount");
+        Matcher m = Pattern.compile("\\b(Arrays|System|Math|Integer|Long|String|List)\\.\\w+(?=\\()").matcher(code);
+        while (m.find()) {
+            Due.holds("of the library " + m.group(), allowed.contains(m.group()));
+        }
+    }
+
     public static void main(String[] args) throws IOException {
         Set<String> told = toldFace();
         Due.is("methods of the document", told.size(), 75);
@@ -93,6 +147,9 @@ public final class FaceTest {
         members();
         noNameTwice();
         words();
+        counts();
+        lengths();
+        library();
         Due.close();
     }
 }
